@@ -16,6 +16,7 @@ public final class EvenClock {
     private static final int MOST_BUFFER_DELAY = 1000000000;
     private static final int PARTS = 11;
     private static final int NONE = -1;
+    private static final int FARTHEST = 2147483647;
     private static final int SCALE = 1024;
     private static final long NEED_SCALE = 1048576L;
 
@@ -275,11 +276,11 @@ public final class EvenClock {
         private void joinNearestPair() {
             int bestA = NONE;
             int bestB = NONE;
-            int least = Integer.MAX_VALUE;
+            int least = FARTHEST;
             for (int a = 0; a < nodes; a++) {
                 for (int b = a + 1; b < nodes; b++) {
                     boolean areFree = parent[a] == NONE && parent[b] == NONE;
-                    int distance = areFree ? distanceOf(a, b) : Integer.MAX_VALUE;
+                    int distance = areFree ? distanceOf(a, b) : FARTHEST;
                     if (distance < least) {
                         least = distance;
                         bestA = a;
