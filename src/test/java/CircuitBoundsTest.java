@@ -278,6 +278,8 @@ public final class CircuitBoundsTest {
         Checks.sentence("Best: the greatest slack of the tree", CircuitBoundsTest::greatestSlack);
         Checks.sentence("Best: of several the one with the least number: none", CircuitBoundsTest::noneOfSeveral);
         Checks.sentence("Best: of several the one with the least number: not none", CircuitBoundsTest::leastOfSeveral);
+        Checks.sentence("Best: of several the one with the least number: 1 of 1, 2 and 3",
+                CircuitBoundsTest::oneOfThree);
         Checks.sentence("Best: of one sink", CircuitBoundsTest::bestOfOne);
         Checks.sentence("Best: all nine joins of ten sinks", CircuitBoundsTest::allNine);
         Checks.sentence("17: best: it changes nothing", CircuitBoundsTest::bestChangesNothing);
@@ -335,6 +337,35 @@ public final class CircuitBoundsTest {
         Checks.due("improve", x.improve(), 2);
         Checks.due("the other buffer is gone", x.setting(), 2);
         Checks.due("from 2, too", x.improve(), 2);
+    }
+
+    /** Sinks 0 and 1 are the worst without a buffer at join 4 or 5; with one sink 3 is, which has none above it. */
+    private static EvenClock oneOfTwoHelps() {
+        EvenClock x = new EvenClock();
+        x.sink(0, 0, 1, 10);
+        x.sink(1, 0, 1, 10);
+        x.sink(3, 0, 1, 100);
+        x.sink(6, 0, 1, 0);
+        x.source(3, 0);
+        x.build(0);
+        return x;
+    }
+
+    private static void oneOfThree() {
+        int[] slacks = {-20971520, -15728640, -15728640, -15728640};
+        for (int setting = 0; setting < 8; setting++) {
+            EvenClock x = oneOfTwoHelps();
+            for (int i = 0; i < 3; i++) {
+                x.set(4 + i, (setting >> i & 1) != 0);
+            }
+            if (setting < 4) {
+                Checks.due("slack of " + setting, x.slack(), slacks[setting]);
+            } else {
+                Checks.due("the root's buffer is above all: " + setting, x.slack() < -15728640, true);
+            }
+            Checks.due("best from " + setting, x.best(), -15728640);
+            Checks.due("improve from " + setting, x.improve(), 1);
+        }
     }
 
     private static void bestOfOne() {

@@ -87,7 +87,10 @@ public final class LifeTest {
         Checks.sentence("1: no sinks", () -> Checks.due("sinks", new EvenClock().sinks(), 0));
         Checks.sentence("1: no tree", () -> Checks.noTree("new", new EvenClock()));
         Checks.sentence("1: each object has its own", LifeTest::objectsApart);
-        Checks.sentence("9 to 18: IllegalStateException when there is no tree", LifeTest::noTreeInAnyState);
+        for (Wrong call : rightOnesWithoutTree()) {
+            Checks.sentence(call.name + ": IllegalStateException when there is no tree", () -> needsTree(call));
+        }
+        Checks.sentence("9 to 18: the same with numbers that are nowhere", LifeTest::noTreeInAnyState);
         Checks.sentence("7: sinks: how many there are, in any state", LifeTest::sinksInAnyState);
     }
 
@@ -96,9 +99,19 @@ public final class LifeTest {
         EvenClock x = new EvenClock();
         EvenClock other = inState(9);
         Checks.noTree("beside a built one", x);
-        other.improve();
         Checks.same("beside a built one", Checks.story(x), due);
-        Checks.due("the other", other.sinks(), 10);
+        Checks.same("the built one", Checks.answers(other), Checks.answers(inState(9)));
+    }
+
+    private static void needsTree(Wrong call) {
+        for (int state = 0; state < STATES.length; state++) {
+            EvenClock x = inState(state);
+            if (isBuilt(state)) {
+                call.call.accept(x);
+            } else {
+                Checks.refused(STATES[state], call.due, () -> call.call.accept(x));
+            }
+        }
     }
 
     private static void noTreeInAnyState() {
@@ -237,6 +250,9 @@ public final class LifeTest {
         back.build(0);
         back.set(18, true);
         Checks.same("and back again", Checks.story(back), Checks.story(builtOf(10, 0)));
+        EvenClock turned = Checks.builtAt(1, 9, 9, 8, 8, 1, 1, 0, 0);
+        turned.build(1);
+        Checks.joins("by way 1 twice, where it puts the last sink first", turned, 3, 2, 1, 0, 4, 5);
     }
 
     private static void outlast() {
@@ -317,20 +333,31 @@ public final class LifeTest {
         return all;
     }
 
+    /** Calls that need a tree and are right in every one (one sink has no join to set a buffer at). */
     private static List<Wrong> rightOnesWithoutTree() {
         List<Wrong> all = new ArrayList<>();
-        all.add(new Wrong("node", Checks.STATE, x -> x.node(0, 0)));
-        all.add(new Wrong("length", Checks.STATE, x -> x.length()));
-        all.add(new Wrong("depth", Checks.STATE, x -> x.depth(0)));
-        all.add(new Wrong("set", Checks.STATE, x -> x.set(Math.max(1, x.sinks()), true)));
-        all.add(new Wrong("taken away", Checks.STATE, x -> x.set(Math.max(1, x.sinks()), false)));
-        all.add(new Wrong("setting", Checks.STATE, x -> x.setting()));
-        all.add(new Wrong("load", Checks.STATE, x -> x.load(0, false)));
-        all.add(new Wrong("delay", Checks.STATE, x -> x.delay(0)));
-        all.add(new Wrong("slack", Checks.STATE, x -> x.slack()));
-        all.add(new Wrong("best", Checks.STATE, x -> x.best()));
-        all.add(new Wrong("improve", Checks.STATE, x -> x.improve()));
+        all.add(new Wrong("9: node", Checks.STATE, x -> x.node(0, 0)));
+        all.add(new Wrong("10: length", Checks.STATE, x -> x.length()));
+        all.add(new Wrong("11: depth", Checks.STATE, x -> x.depth(0)));
+        all.add(new Wrong("12: set", Checks.STATE, x -> setLast(x, true)));
+        all.add(new Wrong("12: set, taken away", Checks.STATE, x -> setLast(x, false)));
+        all.add(new Wrong("13: setting", Checks.STATE, x -> x.setting()));
+        all.add(new Wrong("14: load", Checks.STATE, x -> x.load(0, false)));
+        all.add(new Wrong("14: load, shown", Checks.STATE, x -> x.load(0, true)));
+        all.add(new Wrong("15: delay", Checks.STATE, x -> x.delay(0)));
+        all.add(new Wrong("16: slack", Checks.STATE, x -> x.slack()));
+        all.add(new Wrong("17: best", Checks.STATE, x -> x.best()));
+        all.add(new Wrong("18: improve", Checks.STATE, x -> x.improve()));
         return all;
+    }
+
+    private static void setLast(EvenClock x, boolean on) {
+        int n = x.sinks();
+        if (n == 1) {
+            x.setting();
+        } else {
+            x.set(Math.max(2, 2 * n - 2), on);
+        }
     }
 
     private static List<Wrong> refusedIn(int state) {

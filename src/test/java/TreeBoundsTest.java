@@ -61,6 +61,16 @@ public final class TreeBoundsTest {
         Checks.due(what, x.node(4, Checks.WIRE) + x.node(5, Checks.WIRE), due);
     }
 
+    /** Two pairs of near sinks, both ways round: each pair is once the left one. */
+    private static void bothWaysRound(String what, int due, int... xy) {
+        int[] turned = {xy[4], xy[5], xy[6], xy[7], xy[0], xy[1], xy[2], xy[3]};
+        for (int[] places : new int[][] {xy, turned}) {
+            EvenClock x = Checks.builtAt(0, places);
+            Checks.joins(what, x, 0, 1, 2, 3, 4, 5);
+            Checks.due(what, x.node(4, Checks.WIRE) + x.node(5, Checks.WIRE), due);
+        }
+    }
+
     private static void regionsApart() {
         // u 1024, v -1024 .. 1024 and u 3584, v 512 .. 2560: apart in u alone.
         pairsApart("beside one another", 2560, 0, 0, 1, 1, 2, 0, 3, 2);
@@ -76,6 +86,10 @@ public final class TreeBoundsTest {
         pairsApart("the greater is v", 2560, 0, 1, 2, 0, 3, 1, 4, 0);
         // u 1536, v -1536 .. 512 and u 3072, v 1024 .. 3072: 1536 in u, 512 in v.
         pairsApart("the greater is u", 1536, 0, 0, 1, 2, 2, 0, 3, 1);
+        // u 0 .. 2048 and 20480 .. 22528, v 0.
+        bothWaysRound("from end to end in u", 18432, 0, 1, 1, 0, 10, 11, 11, 10);
+        // v -11264 .. -9216 and 9216 .. 11264, u 11264.
+        bothWaysRound("from end to end in v", 18432, 0, 10, 1, 11, 10, 0, 11, 1);
     }
 
     private static void ofNodes() {
@@ -170,12 +184,18 @@ public final class TreeBoundsTest {
         Checks.sentence("To join: d is 0", TreeBoundsTest::noDistance);
         Checks.sentence("To join: the region are the places in the regions of both, each widened",
                 TreeBoundsTest::widened);
+        Checks.sentence("To join: each end of the region is that of the one that ends first",
+                TreeBoundsTest::endsOfRegion);
         Checks.sentence("What it is: the wire is as long to every sink", TreeBoundsTest::asLongToEverySink);
     }
 
-    /** Sinks 0 and 1 are joined at the place 0, 4 with time 4096; sink 2 is right of it, so many 1024 away. */
+    /**
+     * Sinks 0 and 1 are joined at the place 0, 4 with time 4096; sink 2 is right of it, so many 1024 away.
+     * Another tree stood before: nothing of its wires may be left.
+     */
     private static void late(int away, int aboveLeft, int aboveRight) {
-        EvenClock x = Checks.builtAt(1, 0, 0, 0, 8, away, 4);
+        EvenClock x = Checks.builtAt(0, 0, 0, 0, 8, away, 4);
+        x.build(1);
         Checks.parts("left", x, 3, 0, 1, 4, 4096, 4096, -4096, -4096, 4096, aboveLeft);
         Checks.due("above the right one, d " + away, x.node(2, Checks.WIRE), aboveRight);
         Checks.due("time, d " + away, x.node(4, Checks.TIME), 4096 + aboveLeft);
@@ -187,11 +207,20 @@ public final class TreeBoundsTest {
         late(3, 0, 4096);
         late(4, 0, 4096);
         late(5, 512, 4608);
+        // s 3072, t 1024, d 1024: u 3072, v -3072 .. -1024 and u 4096, v 0 .. 2048.
+        EvenClock x = Checks.builtAt(1, 0, 0, 1, 5, 2, 1, 3, 2);
+        Checks.parts("both have time", x, 4, 0, 1, 6, 3072, 3072, -3072, -1024, 3072, 0);
+        Checks.parts("both have time", x, 5, 2, 3, 6, 4096, 4096, 0, 2048, 1024, 2048);
+        Checks.parts("both have time", x, 6, 4, 5, -1, 3072, 3072, -2048, -1024, 3072);
     }
 
-    /** Sinks 0 and 1 are at one place; 2 and 3, right of it, are joined at the place 5, 4 with time 4096. */
+    /**
+     * Sinks 0 and 1 are at one place; 2 and 3, right of it, are joined at the place 5, 4 with time 4096.
+     * Another tree stood before here, too.
+     */
     private static void lateRight(int x01, int aboveLeft, int aboveRight) {
-        EvenClock x = Checks.builtAt(1, x01, 4, x01, 4, 5, 0, 5, 8);
+        EvenClock x = Checks.builtAt(0, x01, 4, x01, 4, 5, 0, 5, 8);
+        x.build(1);
         Checks.parts("right", x, 5, 2, 3, 6, 9216, 9216, 1024, 1024, 4096, aboveRight);
         Checks.due("above the left one from " + x01, x.node(4, Checks.WIRE), aboveLeft);
         Checks.due("time from " + x01, x.node(6, Checks.TIME), aboveLeft);
@@ -203,6 +232,11 @@ public final class TreeBoundsTest {
         lateRight(2, 4096, 0);
         lateRight(1, 4096, 0);
         lateRight(0, 4608, 512);
+        // s 512, t 3072, d 1536: u 512, v 512 and u 2048 .. 8192, v 2048.
+        EvenClock x = Checks.builtAt(1, 0, 0, 1, 0, 2, 3, 5, 0);
+        Checks.parts("both have time", x, 4, 0, 1, 6, 512, 512, 512, 512, 512, 2560);
+        Checks.parts("both have time", x, 5, 3, 2, 6, 2048, 8192, 2048, 2048, 3072, 0);
+        Checks.parts("both have time", x, 6, 4, 5, -1, 2048, 3072, 2048, 2048, 3072);
     }
 
     private static void bothReach() {
@@ -278,6 +312,31 @@ public final class TreeBoundsTest {
         Checks.parts("from edge to edge", Checks.builtAt(0, 0, 200, 200, 0), 2, 0, 1, -1, 0, 409600, 0, 0, 204800);
         Checks.parts("from corner to corner", Checks.builtAt(0, 0, 0, 200, 200), 2, 0, 1, -1, 204800, 204800, -204800,
                 204800, 204800);
+    }
+
+    /** Two pairs, cut by x: the lengths above their joins, then U1, U2, V1, V2 of the root. */
+    private static void rootOf(String what, EvenClock x, int... due) {
+        Checks.due(what + ": above 4", x.node(4, Checks.WIRE), due[0]);
+        Checks.due(what + ": above 5", x.node(5, Checks.WIRE), due[1]);
+        for (int part = Checks.U1; part <= Checks.V2; part++) {
+            Checks.due(what + ": part " + part, x.node(6, part), due[part - 1]);
+        }
+    }
+
+    private static void endsOfRegion() {
+        // u 1536 - 1024 .. 3584 + 1024 within u 2560 - 3072 .. 2560 + 3072.
+        rootOf("both of u of the left", Checks.builtAt(1, 0, 4, 1, 0, 2, 0, 3, 0), 1024, 3072, 512, 4608, -512, -512);
+        // u 512 - 1024 .. 2560 + 1024 and u 2048 - 1536 .. 4096 + 1536.
+        rootOf("U2 of the left", Checks.builtAt(1, 0, 2, 1, 0, 2, 1, 3, 0), 1024, 1536, 512, 3584, 512, 512);
+        // u 3072 - 3072 .. 5120 + 3072 and u 2560 - 2560 .. 4608 + 2560.
+        rootOf("U2 of the right", Checks.builtAt(1, 0, 4, 1, 3, 2, 1, 4, 0), 3072, 2560, 0, 7168, 0, 0);
+        // v -1536 - 2048 .. 512 + 2048 and v -2048 - 2560 .. 0 + 2560.
+        rootOf("V1 of the left", Checks.builtAt(1, 0, 0, 1, 2, 2, 3, 3, 4), 2048, 2560, 3584, 3584, -3584, 2560);
+        // v -1536 - 512 .. 512 + 512 and v 1024 - 1024 .. 3072 + 1024.
+        rootOf("V2 of the left", Checks.builtAt(1, 0, 0, 1, 2, 2, 0, 3, 1), 512, 1024, 2048, 2048, 0, 1024);
+        // v -512 - 1024 .. 1536 + 1024 within v 512 - 3072 .. 512 + 3072.
+        rootOf("both of v of the right", Checks.builtAt(1, 0, 0, 1, 0, 2, 0, 3, 4), 3072, 1024, 3584, 3584, -1536,
+                2560);
     }
 
     private static void asLongToEverySink() {
