@@ -99,6 +99,17 @@ final class Checks {
         }
     }
 
+    /** All parts of all nodes, by node and part; of ten sinks that takes 210 calls. */
+    static int[][] nodes(EvenClock x) {
+        int[][] all = new int[2 * x.sinks() - 1][V + 1];
+        for (int k = 0; k < all.length; k++) {
+            for (int part = 0; part <= V; part++) {
+                all[k][part] = x.node(k, part);
+            }
+        }
+        return all;
+    }
+
     /** Sinks at places x, y, x, y, .. , each with load 1 and need 0. */
     static EvenClock at(int... xy) {
         EvenClock x = new EvenClock();

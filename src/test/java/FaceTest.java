@@ -33,6 +33,7 @@ public final class FaceTest {
 
     public static void main(String[] args) {
         Class<EvenClock> c = EvenClock.class;
+        checkDocument();
         check("the class is public and final", Modifier.isPublic(c.getModifiers())
                 && Modifier.isFinal(c.getModifiers()) && c.getPackageName().isEmpty());
         checkMethods(c);
@@ -48,6 +49,20 @@ public final class FaceTest {
         }
         System.out.println(wrong == 0 ? "the face is the document's" : wrong + " faults of the face");
         System.exit(wrong == 0 ? 0 : 1);
+    }
+
+    /** The signatures above are those of ../shared/DOC.md, but for the names of parameters. */
+    private static void checkDocument() {
+        Set<String> told = new TreeSet<>();
+        for (String line : Document.face()) {
+            if (line.startsWith("public ") && line.contains("(")) {
+                told.add(line.replaceFirst("public ", "").replaceAll("(int|boolean) \\w+(?=[,)])", "$1")
+                        .replace(", ", ",").replace(" throws", "").replaceAll("(Exception),", "$1 ").replace(";", ""));
+            }
+        }
+        Set<String> due = new TreeSet<>(Arrays.asList(FACE));
+        due.add("EvenClock()");
+        check("../shared/DOC.md tells " + told + ", the test " + due, told.equals(due));
     }
 
     private static void checkMethods(Class<?> c) {
