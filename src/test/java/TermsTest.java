@@ -382,8 +382,8 @@ public final class TermsTest {
     }
 
     private static void joining() {
-        Document.says("TO JOIN two nodes, the LEFT one a and the RIGHT one b: d is the distance of their regions, s and "
-                + "t their times.", TermsTest::leftAndRight);
+        Document.says("TO JOIN two nodes, the LEFT one a and the RIGHT one b: d is the distance of their regions, s "
+                + "and t their times.", TermsTest::leftAndRight);
         Document.says("If s is greater than d + t, the wire above a has length 0, that above b s - t;",
                 TermsTest::leftIsLate);
         Document.says("if t is greater than d + s, the one above b 0, that above a t - s;", TermsTest::rightIsLate);
@@ -493,12 +493,12 @@ public final class TermsTest {
                 TermsTest::severalPairs);
         Document.says("the lesser number is left.", TermsTest::lesserIsLeft);
         Document.says("BY WAY 1 a ROW of sinks is cut: one sink is itself;", TermsTest::rowOfOne);
-        Document.says("else its sinks are put in order by x, if the row was cut an even number of times before (none for "
-                + "the row of all), else by y", TermsTest::byXThenByY);
+        Document.says("else its sinks are put in order by x, if the row was cut an even number of times before (none "
+                + "for the row of all), else by y", TermsTest::byXThenByY);
         Document.says("(those with the same one by the other of x and y, then by their numbers);",
                 TermsTest::thoseWithTheSame);
-        Document.says("the first half of them (the greater one, if they are odd) is cut and joined, then the rest, then "
-                + "both joined, the first half left.", TermsTest::halves);
+        Document.says("the first half of them (the greater one, if they are odd) is cut and joined, then the rest, "
+                + "then both joined, the first half left.", TermsTest::halves);
     }
 
     private static void nearestTwo() {
@@ -619,8 +619,8 @@ public final class TermsTest {
     private static void wiresAndBuffers() {
         Document.says("THE TREE WITH WIRES: WIRES have a RESISTANCE r and a CAPACITY c (1 .. 20 each, at first 1),",
                 TermsTest::whatWiresHave);
-        Document.says("a BUFFER has an INPUT (1 .. 1000000), a DRIVE (1 .. 1000) and a DELAY (0 .. 1000000000), at first "
-                + "1, 1 and 0.", TermsTest::whatABufferHas);
+        Document.says("a BUFFER has an INPUT (1 .. 1000000), a DRIVE (1 .. 1000) and a DELAY (0 .. 1000000000), at "
+                + "first 1, 1 and 0.", TermsTest::whatABufferHas);
         Document.says("A wire of length l has the resistance r * l and the capacity c * l.", TermsTest::ofLength);
         Document.says("At each join there is a buffer or not, at first (when the tree is built) none.",
                 TermsTest::noneAtFirst);
@@ -763,8 +763,8 @@ public final class TermsTest {
                 + "shows);", TermsTest::delayOfWire);
         Document.says("of a buffer its own delay and twice its drive times what its join bears.",
                 TermsTest::delayOfBuffer);
-        Document.says("The delay of a sink is the sum of those of all wires and buffers from the source to it (the wire "
-                + "above the root and that above itself, too).", TermsTest::delayOfSink);
+        Document.says("The delay of a sink is the sum of those of all wires and buffers from the source to it (the "
+                + "wire above the root and that above itself, too).", TermsTest::delayOfSink);
         Document.says("Its SLACK is 1048576 times its need less its delay;", TermsTest::slackOfSink);
         Document.says("that of the tree is the least one of its sinks.", TermsTest::slackOfTree);
     }
