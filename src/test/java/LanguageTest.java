@@ -30,8 +30,8 @@ import javax.tools.StandardJavaFileManager;
 import javax.tools.ToolProvider;
 
 /**
- * Rules of ../shared/LANGUAGE.md that can be seen from the text of the class alone: forms that it does not use,
- * the library, exceptions, and how long and how many things are. The other rules are kept by reading.
+ * Some rules of ../shared/LANGUAGE.md, seen from the text of the class: forms that it does not use, the library,
+ * exceptions, and how long and how many things are. The other rules are kept by reading.
  */
 public final class LanguageTest {
     private static final Path FILE = Path.of("src/main/java/EvenClock.java");
